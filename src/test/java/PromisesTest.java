@@ -266,6 +266,13 @@ final class PromisesTest {
         y.stick(44, 0);
         y.set(0, 1);
         check.answers("local 9 chooses local 0", 1, () -> y.value(10));
+        CircuitSimulator z = withPorts(2);
+        z.part(1, AND, 2, 0, 1, 9);
+        check.answers("what a kind has no use for names no net", 41, () -> z.instance(1, 0, 1));
+        z.build();
+        z.set(0, 1);
+        z.set(1, 1);
+        check.answers("a and b lie where they should", 1, () -> z.value(40));
     }
 
     private void instanceRefusals() {
@@ -274,7 +281,9 @@ final class PromisesTest {
         x.part(1, TRI, 1, 0, 2, 0);
         x.part(1, TRI, 1, 2, 0, 0);
         x.build();
-        int[][] wrong = {{-1, 1, 1}, {2, 1, 1}, {0, -1, 1}, {0, 40, 1}, {0, 0, -1}, {0, 0, 40}, {1, MAX, 0}, {1, 0, MIN}};
+        int[][] wrong = {
+            {-1, 1, 1}, {2, 1, 1}, {0, -1, 1}, {0, 40, 1}, {0, 0, -1}, {0, 0, 40}, {1, MAX, 0}, {1, 0, MIN},
+        };
         for (int[] w : wrong) {
             check.refuses("instance", Check.ARGUMENT, x, () -> x.instance(w[0], w[1], w[2]));
         }
@@ -326,6 +335,18 @@ final class PromisesTest {
         check.answers("59 cells and 1 more", 51, () -> nearly.instance(1, 0, 0));
         check.answers("60 cells", 60, () -> nearly.count(1));
         check.refuses("60 cells and 1 more", Check.STATE, nearly, () -> nearly.instance(1, 0, 0));
+        CircuitSimulator wide = new CircuitSimulator();
+        for (int local = 2; local < 10; local += 2) {
+            wide.part(0, TRI, local, local, local + 1, 0);
+        }
+        wide.part(1, TRI, 2, 0, 1, 0);
+        for (int i = 0; i < 4; i++) {
+            wide.instance(0, 0, 0);
+        }
+        for (int i = 73; i <= 80; i++) {
+            check.answers("net by net", i, () -> wide.instance(1, 0, 0));
+        }
+        check.refuses("80 nets and 1 more", Check.STATE, wide, () -> wide.instance(1, 0, 0));
     }
 
     private void build() {
@@ -407,6 +428,16 @@ final class PromisesTest {
         between.cell(NOT, 5, 20, 0, 0);
         between.cell(OR, 30, 30, 5, 0);
         check.answers("a net between two loops is none", 20, between::loop);
+        CircuitSimulator zero = new CircuitSimulator();
+        zero.cell(NOT, 7, 0, 0, 0);
+        zero.cell(NOT, 0, 7, 0, 0);
+        check.answers("net 0", 0, zero::loop);
+        CircuitSimulator late = new CircuitSimulator();
+        late.part(0, AND, 9, 7, 8, 0);
+        late.part(0, NOT, 7, 6, 0, 0);
+        late.part(0, NOT, 8, 9, 0, 0);
+        late.instance(0, 0, 1);
+        check.answers("net 41, local 7, only leads into it", 42, late::loop);
     }
 
     private void set() {
@@ -653,7 +684,15 @@ final class PromisesTest {
     }
 
     private void count() {
-        CircuitSimulator x = withPorts(3);
+        CircuitSimulator alone = new CircuitSimulator();
+        alone.cell(REGISTER, 0, 1, 0, 1);
+        check.answers("a register that is cell 0", 1, () -> alone.count(2));
+        alone.build();
+        alone.tick(0);
+        check.answers("it took UNKNOWN", 2, () -> alone.state(0));
+        alone.reset();
+        check.answers("and is reset", 1, () -> alone.state(0));
+        CircuitSimulator x = withPorts(4);
         x.cell(REGISTER, 5, 0, 1, 0);
         x.cell(REGISTER, 6, 0, 0, 1);
         x.part(0, REGISTER, 2, 1, 0, 2);
@@ -661,7 +700,7 @@ final class PromisesTest {
         x.build();
         x.set(0, 1);
         x.set(1, 3);
-        int[] due = {41, 6, 3, 1, 3, 2, 36, 3};
+        int[] due = {41, 7, 3, 1, 3, 3, 35, 3};
         for (int what = 0; what < due.length; what++) {
             int asked = what;
             check.answers("count " + what, due[what], () -> x.count(asked));
