@@ -1,11 +1,27 @@
 import java.util.NoSuchElementException;
 import java.util.function.IntSupplier;
+import java.util.function.ToIntFunction;
 
 /** Compares answers and exceptions with those that are due, and remembers how many were wrong. */
 final class Check {
+    static final Class<IllegalArgumentException> ARGUMENT = IllegalArgumentException.class;
+    static final Class<IllegalStateException> STATE = IllegalStateException.class;
+    static final Class<NoSuchElementException> ELEMENT = NoSuchElementException.class;
+    static final Class<UnsupportedOperationException> UNSUPPORTED = UnsupportedOperationException.class;
+
     private static final int MOST_PRINTED = 20;
+    private String under = "";
     private int wrong = 0;
     private int done = 0;
+
+    /** What is checked from here on is told under this name. */
+    void under(String name) {
+        under = name + ": ";
+    }
+
+    int done() {
+        return done;
+    }
 
     void equal(String what, Object due, Object got) {
         done++;
@@ -18,24 +34,29 @@ final class Check {
         equal(what, String.valueOf(due), outcome(call));
     }
 
-    /** The call must throw just this class, and leave all that can be asked of the object as it was. */
-    void refuses(String what, Class<? extends RuntimeException> due, CircuitSimulator x, IntSupplier call) {
-        String before = picture(x);
-        equal(what, due.getSimpleName(), outcome(call));
-        equal(what + ", all that can be asked afterwards", before, picture(x));
+    /**
+     * The call must throw just this class, and leave the object as it was: whatever is asked of it or
+     * done with it then goes as with a twin that never had the call.
+     */
+    void refuses(String what, Class<? extends RuntimeException> due, Circuit x, ToIntFunction<Circuit> call) {
+        Circuit asked = x.twin();
+        Circuit used = x.twin();
+        equal(what, due.getSimpleName(), outcome(() -> call.applyAsInt(x)));
+        equal(what + ", then all that can be asked", Picture.of(asked), Picture.of(x.twin()));
+        equal(what + ", then all that is done", Picture.later(used), Picture.later(x.twin()));
+    }
+
+    void fail(String text) {
+        wrong++;
+        if (wrong <= MOST_PRINTED) {
+            System.out.println(under + text);
+        }
     }
 
     void finish(String name) {
         System.out.println(name + ": " + done + " checks, " + wrong + " wrong");
         if (wrong > 0) {
             System.exit(1);
-        }
-    }
-
-    private void fail(String text) {
-        wrong++;
-        if (wrong <= MOST_PRINTED) {
-            System.out.println(text);
         }
     }
 
@@ -46,28 +67,4 @@ final class Check {
             return e.getClass().getSimpleName();
         }
     }
-
-    /** Every answer of the calls that only ask. */
-    static String picture(CircuitSimulator x) {
-        StringBuilder text = new StringBuilder();
-        for (int what = 0; what < 8; what++) {
-            text.append(x.count(what)).append(' ');
-        }
-        for (int net = 0; net < 80; net++) {
-            int asked = net;
-            text.append(outcome(() -> x.value(asked))).append(' ');
-            text.append(outcome(() -> x.level(asked))).append(' ');
-            text.append(outcome(() -> x.flips(asked))).append(' ');
-        }
-        for (int cell = 0; cell < 60; cell++) {
-            int asked = cell;
-            text.append(outcome(() -> x.state(asked))).append(' ');
-        }
-        return text.append(outcome(x::loop)).toString();
-    }
-
-    static final Class<IllegalArgumentException> ARGUMENT = IllegalArgumentException.class;
-    static final Class<IllegalStateException> STATE = IllegalStateException.class;
-    static final Class<NoSuchElementException> ELEMENT = NoSuchElementException.class;
-    static final Class<UnsupportedOperationException> UNSUPPORTED = UnsupportedOperationException.class;
 }

@@ -1,56 +1,11 @@
 /** Each promise by hand: ordinary inputs, the edges that the document names, and wrong inputs. */
-final class PromisesTest {
-    private static final int PORT = 0;
-    private static final int NOT = 1;
-    private static final int AND = 2;
-    private static final int OR = 3;
-    private static final int XOR = 4;
-    private static final int MUX = 5;
-    private static final int TRI = 6;
-    private static final int LATCH = 7;
-    private static final int REGISTER = 8;
-    private static final int MIN = Integer.MIN_VALUE;
-    private static final int MAX = Integer.MAX_VALUE;
-
-    private final Check check = new Check();
-
-    public static void main(String[] args) {
-        PromisesTest test = new PromisesTest();
-        test.aNewObject();
-        test.cellNumbersAndUnused();
-        test.cellRefusals();
-        test.truthTables();
-        test.sharedNets();
-        test.part();
-        test.instanceNets();
-        test.instanceRefusals();
-        test.instanceLimits();
-        test.build();
-        test.buildLevelLimit();
-        test.loop();
-        test.set();
-        test.tick();
-        test.stick();
-        test.value();
-        test.level();
-        test.flips();
-        test.state();
-        test.latchThatIsStuck();
-        test.reset();
-        test.count();
-        test.check.finish("PromisesTest");
+final class PromisesTest extends Suite {
+    public static void main(String[] args) throws ReflectiveOperationException {
+        run(new PromisesTest());
     }
 
-    private static CircuitSimulator withPorts(int ports) {
-        CircuitSimulator x = new CircuitSimulator();
-        for (int i = 0; i < ports; i++) {
-            x.cell(PORT, i, 0, 0, 0);
-        }
-        return x;
-    }
-
-    private void aNewObject() {
-        CircuitSimulator x = new CircuitSimulator();
+    void aNewObject() {
+        Circuit x = new Circuit();
         int[] due = {40, 0, 0, 0, 0, 40, 0, 0};
         for (int what = 0; what < due.length; what++) {
             int asked = what;
@@ -61,23 +16,23 @@ final class PromisesTest {
             check.answers("new: value " + net, 2, () -> x.value(asked));
             check.answers("new: flips " + net, 0, () -> x.flips(asked));
         }
-        check.refuses("new: value 40", Check.ELEMENT, x, () -> x.value(40));
-        check.refuses("new: level", Check.STATE, x, () -> x.level(0));
-        check.refuses("new: tick", Check.STATE, x, () -> x.tick(0));
-        check.refuses("new: set", Check.ELEMENT, x, () -> x.set(0, 0));
-        check.refuses("new: state", Check.ELEMENT, x, () -> x.state(0));
-        check.refuses("new: loop", Check.ELEMENT, x, x::loop);
+        check.refuses("new: value 40", Check.ELEMENT, x, c -> c.value(40));
+        check.refuses("new: level", Check.STATE, x, c -> c.level(0));
+        check.refuses("new: tick", Check.STATE, x, c -> c.tick(0));
+        check.refuses("new: set", Check.ELEMENT, x, c -> c.set(0, 0));
+        check.refuses("new: state", Check.ELEMENT, x, c -> c.state(0));
+        check.refuses("new: loop", Check.ELEMENT, x, Circuit::loop);
         check.answers("new: part of template 0", 1, () -> x.part(0, NOT, 1, 0, 0, 0));
         check.answers("new: part of template 1", 1, () -> x.part(1, NOT, 1, 0, 0, 0));
-        CircuitSimulator y = new CircuitSimulator();
+        Circuit y = new Circuit();
         check.answers("new: reset", 0, y::reset);
         check.answers("new: reset settles nothing", 0, () -> y.count(7));
         check.answers("new: build", 0, y::build);
         check.answers("new: all float once built", 40, () -> y.count(6));
     }
 
-    private void cellNumbersAndUnused() {
-        CircuitSimulator x = new CircuitSimulator();
+    void cellNumbersAndUnused() {
+        Circuit x = new Circuit();
         check.answers("a port looks at out alone", 0, () -> x.cell(PORT, 0, MIN, MAX, -1));
         check.answers("NOT looks at a alone", 1, () -> x.cell(NOT, 1, 39, MIN, MAX));
         check.answers("AND has no use for c", 2, () -> x.cell(AND, 2, 39, 39, MAX));
@@ -92,8 +47,8 @@ final class PromisesTest {
         check.answers("it is not built", 0, () -> x.count(3));
     }
 
-    private void cellRefusals() {
-        CircuitSimulator x = withPorts(1);
+    void cellRefusals() {
+        Circuit x = Scenes.ports(1);
         x.cell(TRI, 5, 1, 2, 0);
         x.build();
         int[][] wrong = {
@@ -107,28 +62,28 @@ final class PromisesTest {
             {REGISTER, 0, 0, 2, 0}, {NOT, 0, 40, 0, 0},
         };
         for (int[] w : wrong) {
-            check.refuses("cell of kind " + w[0], Check.ARGUMENT, x, () -> x.cell(w[0], w[1], w[2], w[3], w[4]));
+            check.refuses("cell of kind " + w[0], Check.ARGUMENT, x, c -> c.cell(w[0], w[1], w[2], w[3], w[4]));
         }
         for (int kind = PORT; kind <= REGISTER; kind++) {
             int given = kind;
-            check.refuses("kind " + kind + " beside a port", Check.UNSUPPORTED, x, () -> x.cell(given, 0, 1, 1, 1));
+            check.refuses("kind " + kind + " beside a port", Check.UNSUPPORTED, x, c -> c.cell(given, 0, 1, 1, 1));
             if (kind != TRI) {
-                check.refuses("kind " + kind + " beside a TRI", Check.UNSUPPORTED, x, () -> x.cell(given, 5, 1, 1, 1));
+                check.refuses("kind " + kind + " beside a TRI", Check.UNSUPPORTED, x, c -> c.cell(given, 5, 1, 1, 1));
             }
         }
         check.answers("a TRI beside a TRI", 2, () -> x.cell(TRI, 5, 1, 1, 1));
-        CircuitSimulator full = withPorts(1);
+        Circuit full = Scenes.ports(1);
         for (int i = 1; i < 60; i++) {
             full.cell(TRI, 5, 1, 2, 0);
         }
-        check.refuses("the 61st cell", Check.STATE, full, () -> full.cell(TRI, 5, 1, 2, 0));
-        check.refuses("the 61st on a driven net", Check.UNSUPPORTED, full, () -> full.cell(TRI, 0, 1, 2, 0));
-        check.refuses("the 61st of no kind", Check.ARGUMENT, full, () -> full.cell(9, 0, 1, 2, 0));
-        check.refuses("the 61st on a free net", Check.STATE, full, () -> full.cell(NOT, 7, 1, 2, 0));
+        check.refuses("the 61st cell", Check.STATE, full, c -> c.cell(TRI, 5, 1, 2, 0));
+        check.refuses("the 61st on a driven net", Check.UNSUPPORTED, full, c -> c.cell(TRI, 0, 1, 2, 0));
+        check.refuses("the 61st of no kind", Check.ARGUMENT, full, c -> c.cell(9, 0, 1, 2, 0));
+        check.refuses("the 61st on a free net", Check.STATE, full, c -> c.cell(NOT, 7, 1, 2, 0));
     }
 
     /** Inputs in the order a, b, c over 0, 1, UNKNOWN, FLOATING; a row for each a, then b. */
-    private void truthTables() {
+    void truthTables() {
         table(NOT, 1, "1022");
         table(AND, 2, "0000" + "0122" + "0222" + "0222");
         table(OR, 2, "0122" + "1111" + "2122" + "2122");
@@ -144,7 +99,7 @@ final class PromisesTest {
     }
 
     private void table(int kind, int inputs, String due) {
-        CircuitSimulator x = withPorts(inputs);
+        Circuit x = Scenes.ports(inputs);
         x.cell(kind, 10, 0, 1, 2);
         x.build();
         int rows = 1 << 2 * inputs;
@@ -158,7 +113,7 @@ final class PromisesTest {
 
     private void latchTable(int was, String due) {
         for (int row = 0; row < 16; row++) {
-            CircuitSimulator x = withPorts(2);
+            Circuit x = Scenes.ports(2);
             x.cell(LATCH, 10, 0, 1, 0);
             x.build();
             x.set(0, was);
@@ -173,8 +128,8 @@ final class PromisesTest {
     }
 
     /** A net of three TRI drivers of which each is 0, 1, UNKNOWN or FLOATING. */
-    private void sharedNets() {
-        CircuitSimulator x = withPorts(6);
+    void sharedNets() {
+        Circuit x = Scenes.ports(6);
         for (int i = 0; i < 3; i++) {
             x.cell(TRI, 10, i, 3 + i, 0);
         }
@@ -204,8 +159,8 @@ final class PromisesTest {
         return zero ? 0 : one ? 1 : 3;
     }
 
-    private void part() {
-        CircuitSimulator x = new CircuitSimulator();
+    void part() {
+        Circuit x = new Circuit();
         x.build();
         int[][] wrong = {
             {-1, NOT, 0, 0, 0, 0}, {2, NOT, 0, 0, 0, 0}, {0, PORT, 0, 0, 0, 0}, {0, 9, 0, 0, 0, 0}, {0, -1, 0, 0, 0, 0},
@@ -215,7 +170,7 @@ final class PromisesTest {
             {0, REGISTER, 0, 0, 0, 3}, {0, REGISTER, 0, 0, 0, -1},
         };
         for (int[] w : wrong) {
-            check.refuses("part", Check.ARGUMENT, x, () -> x.part(w[0], w[1], w[2], w[3], w[4], w[5]));
+            check.refuses("part", Check.ARGUMENT, x, c -> c.part(w[0], w[1], w[2], w[3], w[4], w[5]));
         }
         check.answers("the first part", 1, () -> x.part(0, NOT, 9, 0, MIN, MAX));
         check.answers("a part with what it has no use for", 2, () -> x.part(0, AND, 8, 9, 0, 99));
@@ -225,15 +180,15 @@ final class PromisesTest {
         for (int i = 4; i <= 10; i++) {
             check.answers("part " + i, i, () -> x.part(0, TRI, 5, 6, 7, 0));
         }
-        check.refuses("the 11th part", Check.STATE, x, () -> x.part(0, TRI, 5, 6, 7, 0));
-        check.refuses("the 11th part of no kind", Check.ARGUMENT, x, () -> x.part(0, 0, 5, 6, 7, 0));
+        check.refuses("the 11th part", Check.STATE, x, c -> c.part(0, TRI, 5, 6, 7, 0));
+        check.refuses("the 11th part of no kind", Check.ARGUMENT, x, c -> c.part(0, 0, 5, 6, 7, 0));
         check.answers("the other template is not full", 2, () -> x.part(1, TRI, 5, 6, 7, 0));
         check.answers("parts make no cells", 0, () -> x.count(1));
     }
 
     /** y = NOT of x through two fresh nets, numbered by rising local numbers, not by the order of the cells. */
-    private void instanceNets() {
-        CircuitSimulator x = withPorts(1);
+    void instanceNets() {
+        Circuit x = Scenes.ports(1);
         x.part(0, NOT, 7, 0, 3, 3);
         x.part(0, NOT, 4, 7, 5, 9);
         x.part(0, NOT, 1, 4, 0, 0);
@@ -257,7 +212,7 @@ final class PromisesTest {
         check.answers("the register takes local 1", 0, () -> x.tick(1));
         check.answers("a template without cells", 45, () -> x.instance(1, 44, 44));
         check.answers("is an instance all the same", 0, () -> x.count(3));
-        CircuitSimulator y = withPorts(2);
+        Circuit y = Scenes.ports(2);
         y.part(0, MUX, 1, 0, 2, 9);
         y.part(0, LATCH, 3, 5, 6, 8);
         check.answers("inputs that no cell drives are fresh too", 45, () -> y.instance(0, 0, 10));
@@ -266,7 +221,7 @@ final class PromisesTest {
         y.stick(44, 0);
         y.set(0, 1);
         check.answers("local 9 chooses local 0", 1, () -> y.value(10));
-        CircuitSimulator z = withPorts(2);
+        Circuit z = Scenes.ports(2);
         z.part(1, AND, 2, 0, 1, 9);
         check.answers("what a kind has no use for names no net", 41, () -> z.instance(1, 0, 1));
         z.build();
@@ -275,8 +230,8 @@ final class PromisesTest {
         check.answers("a and b lie where they should", 1, () -> z.value(40));
     }
 
-    private void instanceRefusals() {
-        CircuitSimulator x = withPorts(1);
+    void instanceRefusals() {
+        Circuit x = Scenes.ports(1);
         x.part(0, NOT, 1, 0, 0, 0);
         x.part(1, TRI, 1, 0, 2, 0);
         x.part(1, TRI, 1, 2, 0, 0);
@@ -285,23 +240,23 @@ final class PromisesTest {
             {-1, 1, 1}, {2, 1, 1}, {0, -1, 1}, {0, 40, 1}, {0, 0, -1}, {0, 0, 40}, {1, MAX, 0}, {1, 0, MIN},
         };
         for (int[] w : wrong) {
-            check.refuses("instance", Check.ARGUMENT, x, () -> x.instance(w[0], w[1], w[2]));
+            check.refuses("instance", Check.ARGUMENT, x, c -> c.instance(w[0], w[1], w[2]));
         }
-        check.refuses("NOT beside a port", Check.UNSUPPORTED, x, () -> x.instance(0, 5, 0));
-        check.refuses("TRI beside a port", Check.UNSUPPORTED, x, () -> x.instance(1, 5, 0));
+        check.refuses("NOT beside a port", Check.UNSUPPORTED, x, c -> c.instance(0, 5, 0));
+        check.refuses("TRI beside a port", Check.UNSUPPORTED, x, c -> c.instance(1, 5, 0));
         check.answers("two TRI in one template", 41, () -> x.instance(1, 5, 6));
-        check.refuses("NOT beside TRI", Check.UNSUPPORTED, x, () -> x.instance(0, 5, 6));
+        check.refuses("NOT beside TRI", Check.UNSUPPORTED, x, c -> c.instance(0, 5, 6));
         check.answers("TRI beside TRI", 42, () -> x.instance(1, 7, 6));
         x.part(0, AND, 2, 0, 1, 0);
         x.part(0, OR, 0, 2, 1, 0);
-        check.refuses("x and y are one net that two cells drive", Check.UNSUPPORTED, x, () -> x.instance(0, 8, 8));
+        check.refuses("x and y are one net that two cells drive", Check.UNSUPPORTED, x, c -> c.instance(0, 8, 8));
         check.answers("as two nets they may be", 43, () -> x.instance(0, 8, 9));
         x.part(0, TRI, 2, 0, 1, 0);
-        check.refuses("two on a fresh net", Check.UNSUPPORTED, x, () -> x.instance(0, 10, 11));
+        check.refuses("two on a fresh net", Check.UNSUPPORTED, x, c -> c.instance(0, 10, 11));
     }
 
-    private void instanceLimits() {
-        CircuitSimulator x = new CircuitSimulator();
+    void instanceLimits() {
+        Circuit x = new Circuit();
         for (int local = 2; local < 10; local += 2) {
             x.part(0, TRI, local, local, local + 1, 0);
         }
@@ -309,20 +264,20 @@ final class PromisesTest {
             check.answers("instance " + i, 40 + 8 * i, () -> x.instance(0, 0, 0));
         }
         check.answers("cells", 20, () -> x.count(1));
-        check.refuses("the 81st net", Check.STATE, x, () -> x.instance(0, 0, 0));
-        check.refuses("the 81st net with no such net", Check.ARGUMENT, x, () -> x.instance(0, 80, 0));
+        check.refuses("the 81st net", Check.STATE, x, c -> c.instance(0, 0, 0));
+        check.refuses("the 81st net with no such net", Check.ARGUMENT, x, c -> c.instance(0, 80, 0));
         check.answers("net 79 is there", 2, () -> x.value(79));
-        check.refuses("net 80 is not", Check.ELEMENT, x, () -> x.value(80));
+        check.refuses("net 80 is not", Check.ELEMENT, x, c -> c.value(80));
         for (int i = 0; i < 10; i++) {
             x.part(1, TRI, 0, 1, 1, 0);
         }
         for (int i = 0; i < 4; i++) {
             check.answers("no fresh nets", 80, () -> x.instance(1, 79, 2));
         }
-        check.refuses("the 61st cell", Check.STATE, x, () -> x.instance(1, 79, 2));
+        check.refuses("the 61st cell", Check.STATE, x, c -> c.instance(1, 79, 2));
         x.part(0, NOT, 2, 0, 0, 0);
-        check.refuses("a wrong driver counts before the limits", Check.UNSUPPORTED, x, () -> x.instance(0, 0, 0));
-        CircuitSimulator nearly = withPorts(40);
+        check.refuses("a wrong driver counts before the limits", Check.UNSUPPORTED, x, c -> c.instance(0, 0, 0));
+        Circuit nearly = Scenes.ports(40);
         for (int i = 0; i < 10; i++) {
             nearly.part(0, TRI, 2, 1, 1, 0);
         }
@@ -331,11 +286,11 @@ final class PromisesTest {
         for (int i = 0; i < 9; i++) {
             nearly.instance(1, 0, 0);
         }
-        check.refuses("59 cells and 10 more", Check.STATE, nearly, () -> nearly.instance(0, 0, 0));
+        check.refuses("59 cells and 10 more", Check.STATE, nearly, c -> c.instance(0, 0, 0));
         check.answers("59 cells and 1 more", 51, () -> nearly.instance(1, 0, 0));
         check.answers("60 cells", 60, () -> nearly.count(1));
-        check.refuses("60 cells and 1 more", Check.STATE, nearly, () -> nearly.instance(1, 0, 0));
-        CircuitSimulator wide = new CircuitSimulator();
+        check.refuses("60 cells and 1 more", Check.STATE, nearly, c -> c.instance(1, 0, 0));
+        Circuit wide = new Circuit();
         for (int local = 2; local < 10; local += 2) {
             wide.part(0, TRI, local, local, local + 1, 0);
         }
@@ -346,11 +301,11 @@ final class PromisesTest {
         for (int i = 73; i <= 80; i++) {
             check.answers("net by net", i, () -> wide.instance(1, 0, 0));
         }
-        check.refuses("80 nets and 1 more", Check.STATE, wide, () -> wide.instance(1, 0, 0));
+        check.refuses("80 nets and 1 more", Check.STATE, wide, c -> c.instance(1, 0, 0));
     }
 
-    private void build() {
-        CircuitSimulator x = withPorts(2);
+    void build() {
+        Circuit x = Scenes.ports(2);
         x.cell(AND, 5, 0, 6, 0);
         x.cell(NOT, 6, 1, 0, 0);
         check.answers("nothing is settled yet", 40, () -> x.count(5));
@@ -369,35 +324,35 @@ final class PromisesTest {
         check.answers("settled on building", 0, () -> x.value(7));
         check.answers("ports stay as they were set", 1, () -> x.value(0));
         x.cell(XOR, 8, 8, 0, 0);
-        check.refuses("a net that drives itself", Check.STATE, x, x::build);
+        check.refuses("a net that drives itself", Check.STATE, x, Circuit::build);
         check.answers("settlings", 4, () -> x.count(7));
     }
 
-    private void buildLevelLimit() {
-        CircuitSimulator x = new CircuitSimulator();
+    void buildLevelLimit() {
+        Circuit x = new Circuit();
         for (int i = 0; i < 30; i++) {
             x.cell(NOT, i + 1, i, 0, 0);
         }
         check.answers("level 30 may be", 30, x::build);
         check.answers("level of the last", 30, () -> x.level(30));
         x.cell(TRI, 31, 30, 30, 0);
-        check.refuses("level 31 may not", Check.STATE, x, x::build);
-        check.refuses("it is no loop", Check.ELEMENT, x, x::loop);
-        CircuitSimulator y = withPorts(1);
+        check.refuses("level 31 may not", Check.STATE, x, Circuit::build);
+        check.refuses("it is no loop", Check.ELEMENT, x, Circuit::loop);
+        Circuit y = Scenes.ports(1);
         for (int i = 0; i < 29; i++) {
             y.cell(NOT, i + 1, i, 0, 0);
         }
         check.answers("a port has level 1", 30, y::build);
         y.cell(NOT, 30, 29, 0, 0);
-        check.refuses("one more", Check.STATE, y, y::build);
+        check.refuses("one more", Check.STATE, y, Circuit::build);
     }
 
-    private void loop() {
-        CircuitSimulator x = withPorts(1);
-        check.refuses("no loop", Check.ELEMENT, x, x::loop);
+    void loop() {
+        Circuit x = Scenes.ports(1);
+        check.refuses("no loop", Check.ELEMENT, x, Circuit::loop);
         x.cell(REGISTER, 1, 2, 0, 0);
         x.cell(NOT, 2, 1, 0, 0);
-        check.refuses("a register breaks it", Check.ELEMENT, x, x::loop);
+        check.refuses("a register breaks it", Check.ELEMENT, x, Circuit::loop);
         x.cell(AND, 4, 0, 20, 0);
         x.cell(OR, 20, 30, 0, 0);
         x.cell(LATCH, 30, 0, 20, 0);
@@ -411,28 +366,28 @@ final class PromisesTest {
         check.answers("not the greatest", 10, x::loop);
         x.cell(XOR, 3, 10, 3, 0);
         check.answers("on itself", 3, x::loop);
-        CircuitSimulator y = new CircuitSimulator();
+        Circuit y = new Circuit();
         y.part(0, NOT, 9, 5, 0, 0);
         y.part(0, NOT, 5, 9, 0, 0);
         y.instance(1, 0, 1);
-        check.refuses("a template is no circuit", Check.ELEMENT, y, y::loop);
+        check.refuses("a template is no circuit", Check.ELEMENT, y, Circuit::loop);
         y.instance(0, 0, 1);
         check.answers("a loop of fresh nets", 40, y::loop);
-        CircuitSimulator z = new CircuitSimulator();
+        Circuit z = new Circuit();
         z.cell(TRI, 9, 1, 1, 0);
         z.cell(TRI, 9, 1, 8, 0);
         z.cell(NOT, 8, 9, 0, 0);
         check.answers("through the second driver", 8, z::loop);
-        CircuitSimulator between = new CircuitSimulator();
+        Circuit between = new Circuit();
         between.cell(OR, 20, 20, 0, 0);
         between.cell(NOT, 5, 20, 0, 0);
         between.cell(OR, 30, 30, 5, 0);
         check.answers("a net between two loops is none", 20, between::loop);
-        CircuitSimulator zero = new CircuitSimulator();
+        Circuit zero = new Circuit();
         zero.cell(NOT, 7, 0, 0, 0);
         zero.cell(NOT, 0, 7, 0, 0);
         check.answers("net 0", 0, zero::loop);
-        CircuitSimulator late = new CircuitSimulator();
+        Circuit late = new Circuit();
         late.part(0, AND, 9, 7, 8, 0);
         late.part(0, NOT, 7, 6, 0, 0);
         late.part(0, NOT, 8, 9, 0, 0);
@@ -440,12 +395,12 @@ final class PromisesTest {
         check.answers("net 41, local 7, only leads into it", 42, late::loop);
     }
 
-    private void set() {
-        CircuitSimulator x = withPorts(2);
+    void set() {
+        Circuit x = Scenes.ports(2);
         x.cell(NOT, 5, 0, 0, 0);
-        check.refuses("not built", Check.STATE, x, () -> x.set(0, 1));
-        check.refuses("not built, no value", Check.ARGUMENT, x, () -> x.set(0, 4));
-        check.refuses("not built, no port", Check.ELEMENT, x, () -> x.set(2, 4));
+        check.refuses("not built", Check.STATE, x, c -> c.set(0, 1));
+        check.refuses("not built, no value", Check.ARGUMENT, x, c -> c.set(0, 4));
+        check.refuses("not built, no port", Check.ELEMENT, x, c -> c.set(2, 4));
         x.build();
         check.answers("a refused set changed nothing", 2, () -> x.value(0));
         for (int value = 0; value <= 3; value++) {
@@ -455,27 +410,27 @@ final class PromisesTest {
         check.answers("each settles", 5, () -> x.count(7));
         check.answers("also to what it was", 3, () -> x.set(0, 3));
         check.answers("that settles too", 6, () -> x.count(7));
-        check.refuses("value 4", Check.ARGUMENT, x, () -> x.set(1, 4));
-        check.refuses("value -1", Check.ARGUMENT, x, () -> x.set(1, -1));
-        check.refuses("no port", Check.ELEMENT, x, () -> x.set(2, 1));
-        check.refuses("no cell", Check.ELEMENT, x, () -> x.set(3, 9));
-        check.refuses("no cell", Check.ELEMENT, x, () -> x.set(-1, 1));
+        check.refuses("value 4", Check.ARGUMENT, x, c -> c.set(1, 4));
+        check.refuses("value -1", Check.ARGUMENT, x, c -> c.set(1, -1));
+        check.refuses("no port", Check.ELEMENT, x, c -> c.set(2, 1));
+        check.refuses("no cell", Check.ELEMENT, x, c -> c.set(3, 9));
+        check.refuses("no cell", Check.ELEMENT, x, c -> c.set(-1, 1));
         x.stick(1, 0);
         check.answers("the net's value, not the port's", 0, () -> x.set(1, 1));
         x.stick(1, -1);
         check.answers("the port was set behind it", 1, () -> x.value(1));
     }
 
-    private void tick() {
-        CircuitSimulator x = withPorts(1);
+    void tick() {
+        Circuit x = Scenes.ports(1);
         x.cell(REGISTER, 1, 0, 0, 0);
         x.cell(REGISTER, 2, 1, 0, 1);
         x.cell(REGISTER, 3, 2, 1, 2);
         x.cell(REGISTER, 4, 4, 1, 1);
-        check.refuses("not built", Check.STATE, x, () -> x.tick(1));
-        check.refuses("not built, no clock", Check.ARGUMENT, x, () -> x.tick(2));
+        check.refuses("not built", Check.STATE, x, c -> c.tick(1));
+        check.refuses("not built, no clock", Check.ARGUMENT, x, c -> c.tick(2));
         x.build();
-        check.refuses("no clock", Check.ARGUMENT, x, () -> x.tick(-1));
+        check.refuses("no clock", Check.ARGUMENT, x, c -> c.tick(-1));
         x.set(0, 1);
         check.answers("at once", 2, () -> x.tick(0));
         check.answers("the first took the port", 1, () -> x.value(1));
@@ -492,7 +447,7 @@ final class PromisesTest {
         x.stick(0, 0);
         check.answers("a stuck net is taken as stuck", 1, () -> x.tick(0));
         check.answers("at 0", 0, () -> x.state(1));
-        CircuitSimulator swap = new CircuitSimulator();
+        Circuit swap = new Circuit();
         swap.cell(REGISTER, 0, 1, 0, 0);
         swap.cell(REGISTER, 1, 0, 0, 1);
         swap.build();
@@ -501,8 +456,8 @@ final class PromisesTest {
         check.answers("swapped", 0, () -> swap.value(1));
     }
 
-    private void stick() {
-        CircuitSimulator x = withPorts(1);
+    void stick() {
+        Circuit x = Scenes.ports(1);
         x.cell(NOT, 1, 0, 0, 0);
         check.answers("before building", 1, () -> x.stick(0, 1));
         check.answers("it does not settle", 0, () -> x.count(7));
@@ -524,11 +479,11 @@ final class PromisesTest {
         check.answers("has the value", 0, () -> x.value(39));
         check.answers("the level is as before", 0, () -> x.level(39));
         check.answers("it stays built", 1, () -> x.count(3));
-        check.refuses("no net", Check.ELEMENT, x, () -> x.stick(40, 0));
-        check.refuses("no net, no value", Check.ELEMENT, x, () -> x.stick(-1, 7));
-        check.refuses("FLOATING", Check.ARGUMENT, x, () -> x.stick(0, 3));
-        check.refuses("-2", Check.ARGUMENT, x, () -> x.stick(0, -2));
-        CircuitSimulator y = withPorts(4);
+        check.refuses("no net", Check.ELEMENT, x, c -> c.stick(40, 0));
+        check.refuses("no net, no value", Check.ELEMENT, x, c -> c.stick(-1, 7));
+        check.refuses("FLOATING", Check.ARGUMENT, x, c -> c.stick(0, 3));
+        check.refuses("-2", Check.ARGUMENT, x, c -> c.stick(0, -2));
+        Circuit y = Scenes.ports(4);
         y.cell(TRI, 5, 0, 1, 0);
         y.cell(TRI, 5, 2, 3, 0);
         y.build();
@@ -540,10 +495,10 @@ final class PromisesTest {
         check.answers("stuck stays over building", 0, () -> y.value(6));
     }
 
-    private void value() {
-        CircuitSimulator x = withPorts(1);
-        check.refuses("-1", Check.ELEMENT, x, () -> x.value(-1));
-        check.refuses("40", Check.ELEMENT, x, () -> x.value(40));
+    void value() {
+        Circuit x = Scenes.ports(1);
+        check.refuses("-1", Check.ELEMENT, x, c -> c.value(-1));
+        check.refuses("40", Check.ELEMENT, x, c -> c.value(40));
         check.answers("unknown before", 2, () -> x.value(39));
         x.build();
         check.answers("floating without drivers", 3, () -> x.value(39));
@@ -553,29 +508,29 @@ final class PromisesTest {
         check.answers("as last settled", 1, () -> x.value(0));
     }
 
-    private void level() {
-        CircuitSimulator x = withPorts(2);
+    void level() {
+        Circuit x = Scenes.ports(2);
         x.cell(REGISTER, 2, 8, 0, 0);
         x.cell(TRI, 5, 9, 9, 0);
         x.cell(TRI, 5, 0, 6, 0);
         x.cell(NOT, 6, 1, 0, 0);
         x.cell(MUX, 7, 9, 9, 5);
         x.cell(LATCH, 8, 9, 7, 0);
-        check.refuses("not built", Check.STATE, x, () -> x.level(0));
-        check.refuses("not built, no net", Check.ELEMENT, x, () -> x.level(40));
+        check.refuses("not built", Check.STATE, x, c -> c.level(0));
+        check.refuses("not built, no net", Check.ELEMENT, x, c -> c.level(40));
         check.answers("greatest", 5, x::build);
         int[] due = {1, 1, 1, 0, 0, 3, 2, 4, 5, 0};
         for (int net = 0; net < due.length; net++) {
             int asked = net;
             check.answers("level " + net, due[net], () -> x.level(asked));
         }
-        check.refuses("no net", Check.ELEMENT, x, () -> x.level(-1));
+        check.refuses("no net", Check.ELEMENT, x, c -> c.level(-1));
         x.cell(PORT, 20, 0, 0, 0);
-        check.refuses("not built any more", Check.STATE, x, () -> x.level(0));
+        check.refuses("not built any more", Check.STATE, x, c -> c.level(0));
     }
 
-    private void flips() {
-        CircuitSimulator x = withPorts(1);
+    void flips() {
+        Circuit x = Scenes.ports(1);
         x.cell(NOT, 1, 0, 0, 0);
         x.build();
         int[] values = {0, 1, 1, 2, 0, 3, 1, 0, 1};
@@ -595,12 +550,12 @@ final class PromisesTest {
         x.build();
         check.answers("building settles and turns", 6, () -> x.flips(0));
         check.answers("no driver, no turns", 0, () -> x.flips(39));
-        check.refuses("no net", Check.ELEMENT, x, () -> x.flips(40));
-        check.refuses("no net", Check.ELEMENT, x, () -> x.flips(-1));
+        check.refuses("no net", Check.ELEMENT, x, c -> c.flips(40));
+        check.refuses("no net", Check.ELEMENT, x, c -> c.flips(-1));
     }
 
-    private void state() {
-        CircuitSimulator x = withPorts(2);
+    void state() {
+        Circuit x = Scenes.ports(2);
         for (int first = 0; first <= 2; first++) {
             int given = first;
             x.cell(REGISTER, 10 + first, 0, 1, first);
@@ -609,10 +564,10 @@ final class PromisesTest {
         x.cell(LATCH, 20, 0, 1, 0);
         check.answers("a latch at first", 2, () -> x.state(5));
         x.cell(TRI, 21, 0, 1, 0);
-        check.refuses("a port", Check.ELEMENT, x, () -> x.state(0));
-        check.refuses("a TRI", Check.ELEMENT, x, () -> x.state(6));
-        check.refuses("no cell", Check.ELEMENT, x, () -> x.state(7));
-        check.refuses("no cell", Check.ELEMENT, x, () -> x.state(-1));
+        check.refuses("a port", Check.ELEMENT, x, c -> c.state(0));
+        check.refuses("a TRI", Check.ELEMENT, x, c -> c.state(6));
+        check.refuses("no cell", Check.ELEMENT, x, c -> c.state(7));
+        check.refuses("no cell", Check.ELEMENT, x, c -> c.state(-1));
         x.build();
         x.set(0, 1);
         x.set(1, 1);
@@ -628,8 +583,8 @@ final class PromisesTest {
     }
 
     /** What a latch was is its own value, whatever its net is stuck at. */
-    private void latchThatIsStuck() {
-        CircuitSimulator x = withPorts(2);
+    void latchThatIsStuck() {
+        Circuit x = Scenes.ports(2);
         x.cell(LATCH, 5, 0, 1, 0);
         x.build();
         x.set(0, 1);
@@ -645,8 +600,8 @@ final class PromisesTest {
         check.answers("no more known", 2, () -> x.state(2));
     }
 
-    private void reset() {
-        CircuitSimulator x = withPorts(2);
+    void reset() {
+        Circuit x = Scenes.ports(2);
         x.cell(REGISTER, 2, 0, 0, 1);
         x.cell(LATCH, 3, 0, 1, 0);
         x.build();
@@ -683,8 +638,8 @@ final class PromisesTest {
         check.answers("nothing is stuck", 3, () -> x.value(5));
     }
 
-    private void count() {
-        CircuitSimulator alone = new CircuitSimulator();
+    void count() {
+        Circuit alone = new Circuit();
         alone.cell(REGISTER, 0, 1, 0, 1);
         check.answers("a register that is cell 0", 1, () -> alone.count(2));
         alone.build();
@@ -692,7 +647,7 @@ final class PromisesTest {
         check.answers("it took UNKNOWN", 2, () -> alone.state(0));
         alone.reset();
         check.answers("and is reset", 1, () -> alone.state(0));
-        CircuitSimulator x = withPorts(4);
+        Circuit x = Scenes.ports(4);
         x.cell(REGISTER, 5, 0, 1, 0);
         x.cell(REGISTER, 6, 0, 0, 1);
         x.part(0, REGISTER, 2, 1, 0, 2);
@@ -705,8 +660,8 @@ final class PromisesTest {
             int asked = what;
             check.answers("count " + what, due[what], () -> x.count(asked));
         }
-        check.refuses("count 8", Check.ARGUMENT, x, () -> x.count(8));
-        check.refuses("count -1", Check.ARGUMENT, x, () -> x.count(-1));
-        check.refuses("count of the least number", Check.ARGUMENT, x, () -> x.count(MIN));
+        check.refuses("count 8", Check.ARGUMENT, x, c -> c.count(8));
+        check.refuses("count -1", Check.ARGUMENT, x, c -> c.count(-1));
+        check.refuses("count of the least number", Check.ARGUMENT, x, c -> c.count(MIN));
     }
 }
