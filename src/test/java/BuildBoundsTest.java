@@ -309,6 +309,32 @@ final class BuildBoundsTest extends Suite {
         }
     }
 
+    void aCellOnItselfAmongFreshNets() {
+        for (int kind = NOT; kind <= LATCH; kind++) {
+            for (int place = 2; place <= 4; place++) {
+                if (USES[kind].charAt(place - 2) == 'n') {
+                    int[] numbers = with(gate(kind, 9, 2, 3, 4), place, 9);
+                    Circuit x = new Circuit();
+                    part(x, 0, numbers);
+                    int last = x.instance(0, 0, 1) - 1;
+                    check.answers(told(numbers), last, x::loop);
+                    check.refuses(told(numbers), Check.STATE, x, Circuit::build);
+                }
+            }
+        }
+    }
+
+    void aLoopOverFirstAndFreshNets() {
+        Circuit x = new Circuit();
+        x.part(0, AND, 1, 2, 3, 0);
+        x.part(0, NOT, 2, 0, 0, 0);
+        x.instance(0, 30, 31);
+        check.refuses("open, it is no loop", Check.ELEMENT, x, Circuit::loop);
+        x.cell(NOT, 30, 31, 0, 0);
+        check.answers("closed, it is", 30, x::loop);
+        check.refuses("it does not build", Check.STATE, x, Circuit::build);
+    }
+
     void aRegisterOrPortEndsALoop() {
         Circuit self = of(gate(REGISTER, 3, 3, 0, 0));
         check.refuses("a register on itself", Check.ELEMENT, self, Circuit::loop);

@@ -210,6 +210,28 @@ final class InstanceBoundsTest extends Suite {
         check.answers("settled, the one without drivers", 3, () -> x.value(41));
     }
 
+    /** A cell of an instance on fresh nets and one like it on nets 10 to 13, which are stuck alike. */
+    void eachInputOfEachKindIsThePlacedNet() {
+        for (int kind = NOT; kind <= REGISTER; kind++) {
+            int[] numbers = fitting(kind, 8);
+            Circuit x = template(numbers);
+            x.part(0, MUX, 1, 5, 6, 7);
+            x.cell(kind, 13, 10, kind == REGISTER ? 0 : 11, kind == REGISTER ? 0 : 12);
+            check.answers("nets", 44, () -> x.instance(0, 20, 21));
+            x.build();
+            for (int row = 0; row < 27; row++) {
+                int[] inputs = {row / 9, row / 3 % 3, row % 3};
+                for (int i = 0; i < 3; i++) {
+                    x.stick(10 + i, inputs[i]);
+                    x.stick(40 + i, inputs[i]);
+                }
+                x.tick(0);
+                int due = x.value(13);
+                check.answers("kind " + kind + " of " + told(inputs), due, () -> x.value(43));
+            }
+        }
+    }
+
     void cellsOfAnInstanceAreInOrder() {
         Circuit x = template(new int[] {REGISTER, 2, 0, 0, 0}, new int[] {REGISTER, 3, 0, 0, 1}, new int[] {LATCH, 4, 0, 1, 0});
         x.cell(REGISTER, 0, 0, 0, 2);
@@ -302,6 +324,18 @@ final class InstanceBoundsTest extends Suite {
         y.cell(PORT, 4, 0, 0, 0);
         check.refuses("with the circuit", Check.UNSUPPORTED, y, c -> c.instance(0, 3, 4));
         check.answers("elsewhere it may be", 41, () -> y.instance(0, 3, 5));
+    }
+
+    void theClashMayBeWithThePartLongBefore() {
+        for (int local : new int[] {0, 1, 2, 9}) {
+            Circuit x = template(new int[] {NOT, local, 3, 0, 0});
+            for (int i = 4; i <= 8; i++) {
+                x.part(0, NOT, i, 3, 0, 0);
+            }
+            check.answers("without it", 6 + 40 + (local < 2 ? 0 : 1), () -> x.twin().instance(0, 3, 4));
+            x.part(0, NOT, local, 3, 0, 0);
+            check.refuses("local net " + local, Check.UNSUPPORTED, x, c -> c.instance(0, 3, 4));
+        }
     }
 
     void theClashMayBeBetweenInstances() {

@@ -202,6 +202,24 @@ final class ValueBoundsTest extends Suite {
         check.answers("on its net", 1, () -> x.value(5));
     }
 
+    void aLatchWasItsOwnValueThoughItsNetIsStuck() {
+        for (int stuck = 0; stuck <= 2; stuck++) {
+            Circuit x = Scenes.ports(2);
+            x.cell(LATCH, 5, 0, 1, 0);
+            x.build();
+            x.stick(5, stuck);
+            x.set(0, 1);
+            x.set(1, 1);
+            int given = stuck;
+            check.answers("its net", given, () -> x.value(5));
+            check.answers("what it was", 1, () -> x.state(2));
+            x.set(1, 0);
+            x.set(0, 0);
+            x.stick(5, -1);
+            check.answers("its net then", 1, () -> x.value(5));
+        }
+    }
+
     // Registers.
 
     void aRegisterHasEachFirstState() {
