@@ -14,12 +14,15 @@ final class ModelTest {
     /** How many nets this run mostly uses: few make loops and clashes, many make deep circuits. */
     private final int width;
     private final boolean upward;
+    /** Most cells of such a run stand one behind the other, so that it comes to levels 30 and 31. */
+    private final boolean deep;
 
     private ModelTest(int run) {
         this.run = run;
         random = new Random(run);
         width = 6 + random.nextInt(70);
         upward = random.nextInt(4) > 0;
+        deep = random.nextInt(8) == 0;
     }
 
     public static void main(String[] args) {
@@ -131,10 +134,10 @@ final class ModelTest {
 
     /** Mostly a kind that is there; a run that goes upward takes inputs below out, so that it can be built. */
     private void newCell(Check whole) {
-        int kind = random.nextInt(60) == 0 ? random.nextInt(13) - 2 : random.nextInt(9);
-        int out = net();
-        int below = upward ? Math.max(out, 1) : width;
-        int a = random.nextInt(100) == 0 ? net() : random.nextInt(below);
+        int kind = random.nextInt(60) == 0 ? random.nextInt(13) - 2 : deep ? 1 + random.nextInt(7) : random.nextInt(9);
+        int out = deep ? (model.count(1) + 1) % 40 : net();
+        int below = upward || deep ? Math.max(out, 1) : width;
+        int a = random.nextInt(100) == 0 ? net() : deep ? below - 1 : random.nextInt(below);
         int b = kind == 8 ? random.nextInt(2) : random.nextInt(100) == 0 ? net() : random.nextInt(below);
         int c = kind == 8 ? random.nextInt(3) : random.nextInt(100) == 0 ? net() : random.nextInt(below);
         String call = "cell(" + kind + ", " + out + ", " + a + ", " + b + ", " + c + ")";
