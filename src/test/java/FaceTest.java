@@ -8,10 +8,25 @@ import java.util.TreeSet;
 
 /** The class shows the document's face and nothing else. */
 final class FaceTest {
+    private static final String ARGUMENT = "IllegalArgumentException";
+    private static final String STATE = "IllegalStateException";
+    private static final String ELEMENT = "NoSuchElementException";
+    private static final String UNSUPPORTED = "UnsupportedOperationException";
     private static final String[] FACE = {
-        "int build()", "int cell(int,int,int,int,int)", "int count(int)", "int flips(int)",
-        "int instance(int,int,int)", "int level(int)", "int loop()", "int part(int,int,int,int,int,int)",
-        "int reset()", "int set(int,int)", "int state(int)", "int stick(int,int)", "int tick(int)", "int value(int)",
+        "int build() " + STATE,
+        "int cell(int,int,int,int,int) " + ARGUMENT + " " + UNSUPPORTED + " " + STATE,
+        "int count(int) " + ARGUMENT,
+        "int flips(int) " + ELEMENT,
+        "int instance(int,int,int) " + ARGUMENT + " " + UNSUPPORTED + " " + STATE,
+        "int level(int) " + ELEMENT + " " + STATE,
+        "int loop() " + ELEMENT,
+        "int part(int,int,int,int,int,int) " + ARGUMENT + " " + STATE,
+        "int reset()",
+        "int set(int,int) " + ELEMENT + " " + ARGUMENT + " " + STATE,
+        "int state(int) " + ELEMENT,
+        "int stick(int,int) " + ELEMENT + " " + ARGUMENT,
+        "int tick(int) " + ARGUMENT + " " + STATE,
+        "int value(int) " + ELEMENT,
     };
 
     public static void main(String[] args) {
@@ -48,6 +63,10 @@ final class FaceTest {
             text.append(between).append(type.getName());
             between = ",";
         }
-        return text.append(")").toString();
+        text.append(")");
+        for (Class<?> thrown : method.getExceptionTypes()) {
+            text.append(" ").append(thrown.getSimpleName());
+        }
+        return text.toString();
     }
 }
