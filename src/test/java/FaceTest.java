@@ -43,8 +43,8 @@ final class FaceTest {
         }
         check.equal("the methods shown", new TreeSet<>(Arrays.asList(FACE)), shown);
         for (Method method : face.getDeclaredMethods()) {
-            boolean hidden = Modifier.isPrivate(method.getModifiers());
-            check.equal(method.getName() + " is hidden under a shown name", false, hidden && names.contains(method.getName()));
+            boolean doubled = Modifier.isPrivate(method.getModifiers()) && names.contains(method.getName());
+            check.equal(method.getName() + " is hidden under a shown name", false, doubled);
         }
         for (Field field : face.getDeclaredFields()) {
             check.equal(field.getName() + " is private", true, Modifier.isPrivate(field.getModifiers()));
